@@ -28,12 +28,13 @@ public final class BayStowage {
     private boolean planned;
 
     public BayStowage() {
-        ship = new Ship();
-        crane = new Hold(ship);
-        trial = new Hold(ship);
+        Ship fitted = new Ship();
+        fitted.refit(2, 2, 3, 100, 1000, 1000);
+        ship = fitted;
+        crane = new Hold(fitted);
+        trial = new Hold(fitted);
         script = new Script();
-        planner = new Planner(ship);
-        ship.refit(2, 2, 3, 100, 1000, 1000);
+        planner = new Planner(fitted);
     }
 
     public void bay(int stacks, int tiers, int ports, int tonnes, int vertical, int list)
@@ -485,7 +486,7 @@ public final class BayStowage {
         /** Five boxes lie in 5! orders, split among the stacks in 12 ways; four in 4! and 12. */
         private static final int MOST_OF_FIVE = 1440;
         private static final int MOST_OF_FOUR = 288;
-        /** Departures with all five boxes follow one another and so share one list. */
+        /** Departures with all five boxes come in a row and so share a list. */
         private static final int MOST_LISTED = MOST_OF_FIVE + (MOST_DEPARTURES - 1) * MOST_OF_FOUR;
         private static final int MOST_SHIFTS = (MOST_DEPARTURES - 1) * MOST_BOXES;
 
@@ -536,6 +537,8 @@ public final class BayStowage {
         private boolean listAll() {
             listed = 0;
             for (int port = 0; port < ship.departures(); port++) {
+                // Departures in a row with the same boxes share a list. They share what is known of the
+                // shifts behind it too: one between them saves none, for its box could move later alone.
                 if (port > 0 && sameBoxes(port - 1, port)) {
                     start[port] = start[port - 1];
                 } else {
@@ -551,7 +554,7 @@ public final class BayStowage {
             return true;
         }
 
-        /** Lists what the draft can become: no box before any box, so that the first comes first. */
+        /** Lists what the draft can become: with no box before with one, as arrangements are ordered so. */
         private void listFrom(int stack, int waiting) {
             listBehind(stack, waiting);
             if (draft.hasRoom(stack)) {

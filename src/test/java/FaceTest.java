@@ -42,7 +42,8 @@ public final class FaceTest {
         Set<String> names = FACE.stream().map(FaceTest::nameIn).collect(Collectors.toSet());
         for (Method method : face.getDeclaredMethods()) {
             if (Modifier.isPrivate(method.getModifiers())) {
-                check.isTrue("private " + method.getName() + " has a name of its own", !names.contains(method.getName()));
+                check.isTrue("private " + method.getName() + " has a name of its own",
+                        !names.contains(method.getName()));
             } else {
                 check.due("modifiers of " + method.getName(), Modifier.PUBLIC, method.getModifiers());
                 seen.add(told(method));
@@ -75,9 +76,11 @@ public final class FaceTest {
     private static void fields(Check check, Class<?> face) {
         for (Field field : face.getDeclaredFields()) {
             boolean isNone = field.getName().equals("NONE");
-            check.isTrue("field " + field.getName() + " is private or NONE", isNone != Modifier.isPrivate(field.getModifiers()));
+            check.isTrue("field " + field.getName() + " is private or NONE",
+                    isNone != Modifier.isPrivate(field.getModifiers()));
             boolean isStatic = Modifier.isStatic(field.getModifiers());
-            check.isTrue("static " + field.getName() + " is final", !isStatic || Modifier.isFinal(field.getModifiers()));
+            check.isTrue("static " + field.getName() + " is final",
+                    !isStatic || Modifier.isFinal(field.getModifiers()));
         }
     }
 
@@ -86,7 +89,8 @@ public final class FaceTest {
         for (Class<?> inside : face.getDeclaredClasses()) {
             int modifiers = inside.getModifiers();
             check.isTrue(inside.getName() + " is static", Modifier.isStatic(modifiers));
-            check.isTrue(inside.getName() + " is hidden", !Modifier.isPublic(modifiers) && !Modifier.isProtected(modifiers));
+            check.isTrue(inside.getName() + " is hidden",
+                    !Modifier.isPublic(modifiers) && !Modifier.isProtected(modifiers));
             for (Method method : inside.getDeclaredMethods()) {
                 boolean named = FACE.stream().anyMatch(told -> nameIn(told).equals(method.getName()));
                 check.isTrue(inside.getName() + "." + method.getName() + " has a name of its own", !named);

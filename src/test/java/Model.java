@@ -365,14 +365,15 @@ final class Model {
         for (int port = 0; port < ports; port++) {
             List<List<Integer>> after = port < ports - 1 ? plan.arrangements.get(port) : listed(emptyBay());
             for (int stack = 0; stack < stacks; stack++) {
-                List<Integer> gone = before.get(stack).subList(kept(before.get(stack), after.get(stack)), before.get(stack).size());
-                for (int i = gone.size() - 1; i >= 0; i--) {
-                    row.add(new Move(gone.get(i), port, stack, -1));
+                List<Integer> gone = before.get(stack);
+                for (int tier = gone.size() - 1; tier >= kept(gone, after.get(stack)); tier--) {
+                    row.add(new Move(gone.get(tier), port, stack, -1));
                 }
             }
             for (int stack = 0; stack < stacks; stack++) {
-                for (int box : after.get(stack).subList(kept(before.get(stack), after.get(stack)), after.get(stack).size())) {
-                    row.add(new Move(box, port, -1, stack));
+                List<Integer> come = after.get(stack);
+                for (int tier = kept(before.get(stack), come); tier < come.size(); tier++) {
+                    row.add(new Move(come.get(tier), port, -1, stack));
                 }
             }
             before = after;

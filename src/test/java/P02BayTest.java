@@ -61,7 +61,8 @@ public final class P02BayTest {
                 int beyond = stacks;
                 int above = tiers;
                 x.bay(stacks, tiers, 2, 200, 2000, 2000);
-                check.due("slot(" + (stacks - 1) + ", " + (tiers - 1) + ")", BayStowage.NONE, x.slot(stacks - 1, tiers - 1));
+                check.due("slot(" + (stacks - 1) + ", " + (tiers - 1) + ")", BayStowage.NONE,
+                        x.slot(stacks - 1, tiers - 1));
                 check.badArgument("slot(" + beyond + ", 0)", () -> x.slot(beyond, 0));
                 check.badArgument("slot(0, " + above + ")", () -> x.slot(0, above));
                 int slots = Math.min(stacks * tiers, 5);

@@ -6,6 +6,7 @@ public final class P06PlanTest {
         soundness(check);
         noPlan(check);
         againAndAgain(check);
+        mostArrangements(check);
         check.end();
     }
 
@@ -35,7 +36,8 @@ public final class P06PlanTest {
         x.box(0, 3, 5, 0);
         x.box(1, 2, 5, 0);
         check.due("plan(): from the middle to a side and back", 2, x.plan());
-        check.dueMoves("of the two shifts", x, "0@0 .>1, 0@1 1>., 0@1 .>0, 1@1 .>2, 0@2 0>., 1@2 2>., 0@2 .>1, 0@3 1>.");
+        check.dueMoves("of the two shifts", x,
+                "0@0 .>1, 0@1 1>., 0@1 .>0, 1@1 .>2, 0@2 0>., 1@2 2>., 0@2 .>1, 0@3 1>.");
     }
 
     private static void firstOfSeveral(Check check) {
@@ -100,5 +102,20 @@ public final class P06PlanTest {
         check.emptyCrane("after plan", x);
         check.dueMoves("again", x, Voyages.ONE_STACK_MOVES);
         check.due("verify() again", 0, x.verify());
+    }
+
+    /** Four, five and four boxes in nine slots: no departures have more arrangements among them. */
+    private static void mostArrangements(Check check) {
+        BayStowage x = new BayStowage();
+        x.bay(3, 3, 4, 200, 2000, 2000);
+        for (int box = 0; box < 4; box++) {
+            x.box(0, 3, 40, 0);
+        }
+        x.box(1, 2, 40, 0);
+        for (int call = 6; call < 400; call++) {
+            check.due("plan() as call " + call, 0, x.plan());
+        }
+        check.dueMoves("of the most arrangements", x,
+                "0@0 .>1, 1@0 .>2, 2@0 .>2, 3@0 .>2, 4@1 .>1, 4@2 1>., 0@3 1>., 3@3 2>., 2@3 2>., 1@3 2>.");
     }
 }

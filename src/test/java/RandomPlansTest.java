@@ -28,7 +28,8 @@ public final class RandomPlansTest {
         int list = random.nextInt(3) == 0 ? 2000 : among(0, 20);
         x.bay(stacks, tiers, 4, tonnes, vertical, list);
         model.bay(stacks, tiers, 4, tonnes, vertical, list);
-        StringBuilder told = new StringBuilder("bay(" + stacks + ", " + tiers + ", 4, " + tonnes + ", " + vertical + ", " + list + ")");
+        StringBuilder told = new StringBuilder(
+                "bay(" + stacks + ", " + tiers + ", 4, " + tonnes + ", " + vertical + ", " + list + ")");
         for (int stack = 0; stack < stacks; stack++) {
             boolean on = random.nextInt(3) > 0;
             x.plug(stack, on);

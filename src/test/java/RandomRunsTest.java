@@ -37,7 +37,8 @@ public final class RandomRunsTest {
         } else if (dice < 8) {
             int stack = among(0, stacks - 1);
             boolean on = random.nextInt(3) > 0;
-            compare("plug(" + stack + ", " + on + ")", () -> done(() -> x.plug(stack, on)), () -> done(() -> model.plug(stack, on)));
+            compare("plug(" + stack + ", " + on + ")",
+                    () -> done(() -> x.plug(stack, on)), () -> done(() -> model.plug(stack, on)));
         } else if (dice < 20) {
             box();
         } else if (dice < 22) {
@@ -48,7 +49,8 @@ public final class RandomRunsTest {
         } else if (dice < 50) {
             int i = among(0, Math.max(0, model.moves() - 1));
             int stack = among(0, random.nextBoolean() ? stacks - 1 : 2);
-            compare("hand(" + i + ", " + stack + ")", () -> done(() -> x.hand(i, stack)), () -> done(() -> model.hand(i, stack)));
+            compare("hand(" + i + ", " + stack + ")",
+                    () -> done(() -> x.hand(i, stack)), () -> done(() -> model.hand(i, stack)));
         } else if (dice < 62) {
             int n = among(0, model.moves());
             compare("replay(" + n + ")", () -> x.replay(n), () -> model.replay(n));
@@ -88,7 +90,8 @@ public final class RandomRunsTest {
         int tonnes = random.nextBoolean() ? among(40, 200) : among(1, 80);
         int vertical = random.nextBoolean() ? among(1000, 2000) : among(0, 250);
         int list = random.nextBoolean() ? among(1000, 2000) : among(0, 60);
-        String call = "bay(" + width + ", " + tiers + ", " + length + ", " + tonnes + ", " + vertical + ", " + list + ")";
+        String call = "bay(" + width + ", " + tiers + ", " + length
+                + ", " + tonnes + ", " + vertical + ", " + list + ")";
         int answer = compare(call, () -> done(() -> x.bay(width, tiers, length, tonnes, vertical, list)),
                 () -> done(() -> model.bay(width, tiers, length, tonnes, vertical, list)));
         if (answer == 0) {
