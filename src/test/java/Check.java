@@ -1,3 +1,6 @@
+import java.util.function.Consumer;
+import java.util.function.Supplier;
+
 /** Counts and prints every call whose answer is not the one that is due. */
 final class Check {
     private final String promise;
@@ -9,15 +12,15 @@ final class Check {
     }
 
     void due(String call, long want, long got) {
-        made++;
-        if (got != want) {
-            wrong++;
-            System.out.println(promise + ": " + call + " answered " + got + ", due is " + want);
-        }
+        isTrue(call + " answered " + got + ", due is " + want, got == want);
     }
 
     void isTrue(String claim, boolean holds) {
-        due(claim, 1, holds ? 1 : 0);
+        made++;
+        if (!holds) {
+            wrong++;
+            System.out.println(promise + ": " + claim);
+        }
     }
 
     void fits(String call, Runnable run) {
@@ -36,29 +39,44 @@ final class Check {
         dueThrow(call, IndexOutOfBoundsException.class, run);
     }
 
-    /** A plan is kept with its moves and what the crane has: no call that throws may touch them. */
-    void untouched(String call, BayStowage x, Runnable run) {
-        String before = stateOf(x);
-        try {
-            run.run();
-            isTrue(call + " throws", false);
-        } catch (RuntimeException e) {
-            isTrue(call + " changes nothing: " + before + " became " + stateOf(x), before.equals(stateOf(x)));
-        }
+    void refusedArgument(String call, Supplier<BayStowage> scene, Consumer<BayStowage> run) {
+        refused(call, IllegalArgumentException.class, scene, run);
+    }
+
+    void refusedState(String call, Supplier<BayStowage> scene, Consumer<BayStowage> run) {
+        refused(call, IllegalStateException.class, scene, run);
+    }
+
+    void refusedIndex(String call, Supplier<BayStowage> scene, Consumer<BayStowage> run) {
+        refused(call, IndexOutOfBoundsException.class, scene, run);
+    }
+
+    /** The call throws, and what the object answers from then on is what one answers that had no such call. */
+    private void refused(String call, Class<? extends RuntimeException> want,
+            Supplier<BayStowage> scene, Consumer<BayStowage> run) {
+        BayStowage x = scene.get();
+        dueThrow(call, want, () -> run.accept(x));
+        String got = Probe.all(x);
+        String due = Probe.all(scene.get());
+        isTrue(call + " changes nothing: due is\n" + due + "\n, but there is\n" + got, got.equals(due));
     }
 
     void noPlan(String when, BayStowage x) {
         due("moves() " + when, 0, x.moves());
         badState("verify() " + when, x::verify);
         badIndex("move(0, 0) " + when, () -> x.move(0, 0));
+        badIndex("hand(0, 0) " + when, () -> x.hand(0, 0));
+        badArgument("replay(1) " + when, () -> x.replay(1));
         emptyCrane(when, x);
     }
 
+    /** Stack 0 and tier 0 are in every bay; the weights tell of the others. */
     void emptyCrane(String when, BayStowage x) {
         for (int what = 0; what <= 4; what++) {
             due("moment(" + what + ") " + when, 0, x.moment(what));
         }
         due("slot(0, 0) " + when, BayStowage.NONE, x.slot(0, 0));
+        due("moment(5) " + when, 1, x.moment(5));
     }
 
     void end() {
@@ -87,42 +105,13 @@ final class Check {
         return stack == BayStowage.NONE ? "." : String.valueOf(stack);
     }
 
-    private static String stateOf(BayStowage x) {
-        StringBuilder text = new StringBuilder(movesOf(x));
-        for (int what = 0; what <= 5; what++) {
-            text.append(' ').append(x.moment(what));
-        }
-        for (int stack = 0; stack < 3; stack++) {
-            for (int tier = 0; tier < 3; tier++) {
-                text.append(' ').append(slotOrGap(x, stack, tier));
-            }
-        }
-        try {
-            return text.append(" verify ").append(x.verify()).toString();
-        } catch (IllegalStateException e) {
-            return text.append(" no plan").toString();
-        }
-    }
-
-    private static String slotOrGap(BayStowage x, int stack, int tier) {
-        try {
-            return String.valueOf(x.slot(stack, tier));
-        } catch (IllegalArgumentException e) {
-            return "x";
-        }
-    }
-
     private void dueThrow(String call, Class<? extends RuntimeException> want, Runnable run) {
-        made++;
         Class<?> got = null;
         try {
             run.run();
         } catch (RuntimeException e) {
             got = e.getClass();
         }
-        if (got != want) {
-            wrong++;
-            System.out.println(promise + ": " + call + " throws " + got + ", due is " + want);
-        }
+        isTrue(call + " throws " + got + ", due is " + want, got == want);
     }
 }

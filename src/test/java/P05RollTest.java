@@ -3,7 +3,9 @@ public final class P05RollTest {
         Check check = new Check("promise 5");
         rolledIsNoBox(check);
         dropsThePlan(check);
-        wrongInputs(check);
+        firstAndLastBox(check);
+        noSuchBox(check);
+        notAnyMore(check);
         check.end();
     }
 
@@ -23,26 +25,56 @@ public final class P05RollTest {
     }
 
     private static void dropsThePlan(Check check) {
-        BayStowage x = Voyages.twoStacks();
-        x.replay(2);
+        BayStowage x = Voyages.twoStacksAtPort0();
         x.roll(2);
         check.noPlan("after roll", x);
         check.due("plan() again", 0, x.plan());
         check.due("moves() with one box less", 4, x.moves());
     }
 
-    private static void wrongInputs(Check check) {
-        for (int box : new int[] {-1, 3, 4, 5, Integer.MIN_VALUE, Integer.MAX_VALUE}) {
-            BayStowage x = Voyages.oneStack();
-            x.replay(5);
-            check.badArgument("roll(" + box + ")", () -> x.roll(box));
-            check.untouched("roll(" + box + ")", x, () -> x.roll(box));
+    private static void firstAndLastBox(Check check) {
+        for (int booked = 1; booked <= 5; booked++) {
+            for (int box = 0; box < booked; box++) {
+                int number = box;
+                BayStowage x = bookedOf(booked);
+                check.fits("roll(" + box + ") of " + booked, () -> x.roll(number));
+                check.due("plan() of the others", 0, x.plan());
+                check.due("moves() of the others", 2 * (booked - 1), x.moves());
+            }
         }
-        BayStowage y = Voyages.oneStack();
-        y.roll(1);
-        y.plan();
-        y.replay(2);
-        check.badArgument("roll(1) again", () -> y.roll(1));
-        check.untouched("roll(1) again", y, () -> y.roll(1));
+    }
+
+    private static void noSuchBox(Check check) {
+        check.refusedArgument("roll(0) of none", BayStowage::new, x -> x.roll(0));
+        for (int booked = 1; booked <= 5; booked++) {
+            int most = booked;
+            for (int box : new int[] {-1, booked, 5, Integer.MIN_VALUE, Integer.MAX_VALUE}) {
+                check.refusedArgument("roll(" + box + ") of " + booked, () -> bookedOf(most), x -> x.roll(box));
+            }
+        }
+        for (int box : new int[] {-1, 3, 4, 5, Integer.MIN_VALUE, Integer.MAX_VALUE}) {
+            check.refusedArgument("roll(" + box + ") of a plan", Voyages::oneStackAtPort2, x -> x.roll(box));
+        }
+    }
+
+    /** "(any more)": it was rolled, or belonged to another bay. */
+    private static void notAnyMore(Check check) {
+        check.refusedArgument("roll(0) again", Voyages::booked, x -> x.roll(0));
+        check.refusedArgument("roll(3) again", Voyages::fullBook, x -> x.roll(3));
+        check.refusedArgument("roll(4) again", Voyages::fullBook, x -> x.roll(4));
+        BayStowage x = Voyages.twoStacks();
+        x.bay(2, 2, 3, 100, 1000, 1000);
+        check.badArgument("roll(0) after bay", () -> x.roll(0));
+    }
+
+    private static BayStowage bookedOf(int boxes) {
+        BayStowage x = new BayStowage();
+        x.bay(3, 2, 2, 200, 2000, 2000);
+        for (int box = 0; box < boxes; box++) {
+            x.box(0, 1, 1, 0);
+        }
+        x.plan();
+        x.replay(1);
+        return x;
     }
 }

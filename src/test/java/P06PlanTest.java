@@ -4,7 +4,11 @@ public final class P06PlanTest {
         fewestShifts(check);
         firstOfSeveral(check);
         soundness(check);
+        noBoxesAndFive(check);
+        fullBay(check);
         noPlan(check);
+        noPlanAtOneDeparture(check);
+        emptyCrane(check);
         againAndAgain(check);
         mostArrangements(check);
         check.end();
@@ -83,24 +87,86 @@ public final class P06PlanTest {
         return x.plan();
     }
 
+    private static void noBoxesAndFive(Check check) {
+        for (int boxes = 0; boxes <= 5; boxes++) {
+            BayStowage x = new BayStowage();
+            x.bay(3, 3, 4, 200, 2000, 2000);
+            for (int box = 0; box < boxes; box++) {
+                x.box(0, 3, 40, 0);
+            }
+            check.due("plan() of " + boxes + " boxes", 0, x.plan());
+            check.due("moves() of " + boxes + " boxes", 2 * boxes, x.moves());
+            check.due("verify() of " + boxes + " boxes", 0, x.verify());
+        }
+    }
+
+    /** Bays of at most five slots, full at each departure and with one box too many at one of them. */
+    private static void fullBay(Check check) {
+        int[][] sizes = {{1, 1}, {1, 2}, {1, 3}, {2, 1}, {2, 2}, {3, 1}};
+        for (int[] size : sizes) {
+            String bay = size[0] + " stacks of " + size[1];
+            BayStowage x = new BayStowage();
+            x.bay(size[0], size[1], 3, 200, 2000, 2000);
+            int slots = size[0] * size[1];
+            for (int box = 0; box < slots; box++) {
+                x.box(0, 2, 1, 0);
+            }
+            check.due("plan() that fills " + bay, 0, x.plan());
+            x.replay(slots);
+            for (int box = 0; box < slots; box++) {
+                check.due("slot: " + bay + " are full", box, x.slot(box / size[1], box % size[1]));
+            }
+            x.box(1, 2, 1, 0);
+            check.due("plan() of one too many for " + bay, BayStowage.NONE, x.plan());
+            check.noPlan("of one too many for " + bay, x);
+        }
+    }
+
+    /** "NONE if there is no plan (then there are no moves)": also those of an earlier plan are gone */
     private static void noPlan(Check check) {
-        BayStowage x = Voyages.twoStacks();
-        x.replay(2);
+        BayStowage x = Voyages.twoStacksAtPort0();
         x.box(1, 2, 1, 1);
         check.due("plan() with a cold box at port 1", BayStowage.NONE, x.plan());
         check.noPlan("when there is no plan", x);
+        check.due("plan() with a cold box, again", BayStowage.NONE, x.plan());
+        check.noPlan("when there is no plan, again", x);
         x.roll(3);
         check.due("plan() without the cold box", 0, x.plan());
         check.dueMoves("without the cold box", x, Voyages.TWO_STACKS_MOVES);
     }
 
+    /** The first, one in the middle or the last: one departure that can't be sound is enough. */
+    private static void noPlanAtOneDeparture(Check check) {
+        for (int port = 0; port < 3; port++) {
+            BayStowage x = new BayStowage();
+            x.bay(3, 3, 4, 200, 2000, 2000);
+            x.box(0, 3, 10, 0);
+            check.due("plan() of a dry box", 0, x.plan());
+            x.box(port, port + 1, 10, 1);
+            check.due("plan() with a cold box at departure " + port, BayStowage.NONE, x.plan());
+            check.noPlan("with a cold box at departure " + port, x);
+        }
+    }
+
+    /** "The crane has an empty bay." */
+    private static void emptyCrane(Check check) {
+        BayStowage x = Voyages.oneStackAtPort2();
+        check.due("moment(2) before plan", 1, x.moment(2));
+        x.plan();
+        check.emptyCrane("after plan", x);
+        BayStowage y = Voyages.twoStacksAtPort0();
+        check.due("moment(3) before plan", 30, y.moment(3));
+        y.plan();
+        check.emptyCrane("after plan", y);
+        check.due("slot(1, 0) after plan", BayStowage.NONE, y.slot(1, 0));
+        check.due("slot(1, 1) after plan", BayStowage.NONE, y.slot(1, 1));
+    }
+
     private static void againAndAgain(Check check) {
-        BayStowage x = Voyages.oneStack();
-        x.replay(5);
+        BayStowage x = Voyages.oneStackAtPort2();
         x.hand(0, 2);
         check.due("plan() again", 1, x.plan());
-        check.emptyCrane("after plan", x);
-        check.dueMoves("again", x, Voyages.ONE_STACK_MOVES);
+        check.dueMoves("again: what was told by hand is gone", x, Voyages.ONE_STACK_MOVES);
         check.due("verify() again", 0, x.verify());
     }
 

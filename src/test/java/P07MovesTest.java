@@ -1,33 +1,88 @@
 public final class P07MovesTest {
     public static void main(String[] args) {
         Check check = new Check("promise 7");
-        BayStowage x = new BayStowage();
-        check.due("moves() of a new object", 0, x.moves());
-        check.due("moves() of one stack, a shift is two moves", 8, Voyages.oneStack().moves());
-        check.due("moves() of two stacks", 6, Voyages.twoStacks().moves());
-        BayStowage y = Voyages.twoStacks();
-        y.hand(0, 2);
-        y.replay(0);
-        check.due("moves() after hand and replay", 6, y.moves());
-        y.box(0, 2, 1, 1);
-        check.due("moves() without a plan", 0, y.moves());
-        y.plan();
-        check.due("moves() when there is no plan", 0, y.moves());
-        manyMoves(check);
+        noPlan(check);
+        planOfNothing(check);
+        twoForABox(check);
+        twoForAShift(check);
+        theMost(check);
+        othersLeaveThem(check);
         check.end();
     }
 
-    /** Weights that balance in few ways: nearly all that stays aboard is shifted at each port. */
-    private static void manyMoves(Check check) {
+    private static void noPlan(Check check) {
+        check.due("moves() of a new object", 0, new BayStowage().moves());
+        check.due("moves() of boxes alone", 0, Voyages.booked().moves());
+        check.due("moves() when no plan can be found", 0, Voyages.unplannable().moves());
+        BayStowage x = Voyages.twoStacks();
+        x.bay(2, 2, 3, 100, 1000, 1000);
+        check.due("moves() after bay", 0, x.moves());
+        x = Voyages.twoStacks();
+        x.plug(0, false);
+        check.due("moves() after plug", 0, x.moves());
+        x = Voyages.twoStacks();
+        x.box(0, 1, 1, 0);
+        check.due("moves() after box", 0, x.moves());
+        x = Voyages.twoStacks();
+        x.roll(0);
+        check.due("moves() after roll", 0, x.moves());
+        x = Voyages.twoStacks();
+        x.box(0, 1, 1, 1);
+        x.plan();
+        check.due("moves() after a plan and none", 0, x.moves());
+    }
+
+    private static void planOfNothing(Check check) {
+        check.due("moves() of a plan of nothing", 0, Voyages.plannedEmpty().moves());
+        BayStowage x = Voyages.twoStacks();
+        for (int box = 0; box < 3; box++) {
+            x.roll(box);
+        }
+        x.plan();
+        check.due("moves() when all are rolled", 0, x.moves());
+    }
+
+    private static void twoForABox(Check check) {
+        for (int boxes = 1; boxes <= 5; boxes++) {
+            BayStowage x = new BayStowage();
+            x.bay(3, 2, 2, 200, 2000, 2000);
+            for (int box = 0; box < boxes; box++) {
+                x.box(0, 1, 1, 0);
+            }
+            x.plan();
+            check.due("moves() of " + boxes + " boxes", 2 * boxes, x.moves());
+        }
+    }
+
+    private static void twoForAShift(Check check) {
+        check.due("moves() of three boxes and a shift", 8, Voyages.oneStack().moves());
+        check.due("moves() of three boxes without one", 6, Voyages.twoStacks().moves());
+    }
+
+    /** Five boxes, four of which stay at two ports and are all shifted there: weights that balance in few ways. */
+    private static void theMost(Check check) {
         BayStowage x = new BayStowage();
-        x.bay(3, 3, 4, 200, 2000, 1);
-        x.box(0, 3, 10, 0);
-        x.box(0, 3, 20, 0);
-        x.box(0, 2, 13, 0);
-        x.box(1, 3, 17, 0);
-        x.box(1, 2, 5, 0);
-        check.due("plan() of five boxes", 6, x.plan());
-        check.due("moves(): two a box and two a shift", 2 * 5 + 2 * 6, x.moves());
-        check.due("verify() of five boxes", 0, x.verify());
+        x.bay(3, 2, 4, 64, 2000, 0);
+        for (int tonnes : new int[] {18, 18, 16, 13}) {
+            x.box(0, 3, tonnes, 0);
+        }
+        x.box(1, 2, 3, 0);
+        check.due("plan() of the most shifts", 8, x.plan());
+        check.due("moves() of the most shifts", 2 * 5 + 2 * 8, x.moves());
+        check.due("move(25, 1): the last", 3, x.move(25, 1));
+        check.badIndex("move(26, 1)", () -> x.move(26, 1));
+        check.due("replay(26)", 26, x.replay(26));
+        check.badArgument("replay(27)", () -> x.replay(27));
+        check.due("verify()", 0, x.verify());
+    }
+
+    private static void othersLeaveThem(Check check) {
+        BayStowage x = Voyages.twoStacks();
+        x.hand(0, 2);
+        check.due("moves() after hand", 6, x.moves());
+        x.replay(0);
+        check.due("moves() after replay", 6, x.moves());
+        x.verify();
+        check.due("moves() after verify", 6, x.moves());
     }
 }

@@ -1,9 +1,14 @@
 public final class P08MoveTest {
+    private static final int[] FAR_OFF = {Integer.MIN_VALUE, Integer.MAX_VALUE};
+
     public static void main(String[] args) {
         Check check = new Check("promise 8");
         answers(check);
         order(check);
-        wrongInputs(check);
+        noPlan(check);
+        firstAndLastMove(check);
+        firstAndLastWhat(check);
+        indexBeforeArgument(check);
         check.end();
     }
 
@@ -41,17 +46,47 @@ public final class P08MoveTest {
                 "0@0 .>0, 2@0 .>1, 0@1 0>., 2@1 1>., 1@1 .>0, 3@1 .>1, 1@2 0>., 3@2 1>.");
     }
 
-    private static void wrongInputs(Check check) {
+    private static void noPlan(Check check) {
+        check.refusedIndex("move(0, 0) of a new object", BayStowage::new, x -> x.move(0, 0));
+        check.refusedIndex("move(0, 0) of boxes alone", Voyages::booked, x -> x.move(0, 0));
+        check.refusedIndex("move(0, 0) with no plan to be found", Voyages::unplannable, x -> x.move(0, 0));
+        check.refusedIndex("move(0, 0) of a plan of nothing", Voyages::plannedEmpty, x -> x.move(0, 0));
+    }
+
+    private static void firstAndLastMove(Check check) {
         BayStowage x = Voyages.oneStack();
-        for (int i : new int[] {-1, 8, 9, Integer.MIN_VALUE, Integer.MAX_VALUE}) {
-            check.badIndex("move(" + i + ", 0)", () -> x.move(i, 0));
-            check.badIndex("move(" + i + ", 4): the index goes first", () -> x.move(i, 4));
-            check.badIndex("move(" + i + ", -1): the index goes first", () -> x.move(i, -1));
+        check.due("move(0, 1)", 0, x.move(0, 1));
+        check.due("move(7, 1)", 3, x.move(7, 1));
+        for (int i : new int[] {-1, 8, 9, FAR_OFF[0], FAR_OFF[1]}) {
+            check.refusedIndex("move(" + i + ", 0)", Voyages::oneStackAtPort2, y -> y.move(i, 0));
         }
-        for (int what : new int[] {-1, 4, Integer.MIN_VALUE, Integer.MAX_VALUE}) {
-            check.badArgument("move(0, " + what + ")", () -> x.move(0, what));
-            check.badArgument("move(7, " + what + ")", () -> x.move(7, what));
+        // A plan before had more moves.
+        x.roll(1);
+        x.plan();
+        check.due("move(3, 1) of four", 3, x.move(3, 1));
+        check.badIndex("move(4, 1) of four", () -> x.move(4, 1));
+    }
+
+    private static void firstAndLastWhat(Check check) {
+        BayStowage x = Voyages.oneStack();
+        for (int i = 0; i < 8; i++) {
+            int there = i;
+            check.fits("move(" + i + ", 0)", () -> x.move(there, 0));
+            check.fits("move(" + i + ", 3)", () -> x.move(there, 3));
+            for (int what : new int[] {-1, 4, FAR_OFF[0], FAR_OFF[1]}) {
+                check.refusedArgument("move(" + i + ", " + what + ")", Voyages::oneStackAtPort2,
+                        y -> y.move(there, what));
+            }
         }
-        check.badIndex("move(0, 0) of a new object", () -> new BayStowage().move(0, 0));
+    }
+
+    private static void indexBeforeArgument(Check check) {
+        for (int i : new int[] {-1, 8, FAR_OFF[0], FAR_OFF[1]}) {
+            for (int what : new int[] {-1, 4, FAR_OFF[0], FAR_OFF[1]}) {
+                check.refusedIndex("move(" + i + ", " + what + ")", Voyages::oneStackAtPort2,
+                        x -> x.move(i, what));
+            }
+        }
+        check.refusedIndex("move(0, 4) without a plan", Voyages::booked, x -> x.move(0, 4));
     }
 }

@@ -4,7 +4,10 @@ public final class P10ReplayTest {
         allMoves(check);
         badMoves(check);
         tooHeavy(check);
-        wrongInputs(check);
+        noneAndAll(check);
+        upToTheFirstBadOne(check);
+        noPlan(check);
+        tooFewAndTooMany(check);
         check.end();
     }
 
@@ -61,15 +64,48 @@ public final class P10ReplayTest {
         }
     }
 
-    private static void wrongInputs(Check check) {
-        BayStowage x = Voyages.oneStack();
-        x.replay(5);
-        for (int n : new int[] {-1, 9, Integer.MIN_VALUE, Integer.MAX_VALUE}) {
-            check.badArgument("replay(" + n + ")", () -> x.replay(n));
-            check.untouched("replay(" + n + ")", x, () -> x.replay(n));
+    private static void noneAndAll(Check check) {
+        BayStowage x = Voyages.oneStackAtPort2();
+        check.due("replay(0)", 0, x.replay(0));
+        check.emptyCrane("after replay(0)", x);
+        check.due("replay(8)", 8, x.replay(8));
+        check.emptyCrane("after replay(8): all are off", x);
+        check.due("replay(7)", 7, x.replay(7));
+        check.due("slot(0, 0): the last one is still aboard", 0, x.slot(0, 0));
+    }
+
+    /** The first move, one in the middle and the last one; n just ahead of it, on it and behind it. */
+    private static void upToTheFirstBadOne(Check check) {
+        for (int bad : new int[] {0, 1, 2, 5}) {
+            BayStowage x = Voyages.oneStack();
+            x.hand(bad, 1);
+            for (int n = 0; n <= 8; n++) {
+                check.due("replay(" + n + ") with move " + bad + " bad", Math.min(n, bad), x.replay(n));
+            }
         }
-        BayStowage y = new BayStowage();
-        check.due("replay(0) without a plan", 0, y.replay(0));
-        check.badArgument("replay(1) without a plan", () -> y.replay(1));
+        BayStowage y = Voyages.twoStacks();
+        y.hand(0, 0);
+        check.due("replay(5) with the last move bad", 5, y.replay(5));
+        check.due("replay(6) with the last move bad", 5, y.replay(6));
+        check.due("slot(0, 0): left aboard", 0, y.slot(0, 0));
+    }
+
+    private static void noPlan(Check check) {
+        for (BayStowage x : new BayStowage[] {
+            new BayStowage(), Voyages.booked(), Voyages.unplannable(), Voyages.plannedEmpty()}) {
+            check.due("replay(0) of no moves", 0, x.replay(0));
+            check.emptyCrane("after replay(0) of no moves", x);
+            check.badArgument("replay(1) of no moves", () -> x.replay(1));
+            check.badArgument("replay(-1) of no moves", () -> x.replay(-1));
+        }
+    }
+
+    private static void tooFewAndTooMany(Check check) {
+        for (int n : new int[] {-1, 9, 10, Integer.MIN_VALUE, Integer.MAX_VALUE}) {
+            check.refusedArgument("replay(" + n + ") of eight", Voyages::oneStackAtPort2, x -> x.replay(n));
+        }
+        for (int n : new int[] {-1, 7}) {
+            check.refusedArgument("replay(" + n + ") of six by hand", Voyages::twoStacksByHand, x -> x.replay(n));
+        }
     }
 }

@@ -4,7 +4,9 @@ public final class P12MomentTest {
         answers(check);
         threeStacks(check);
         sound(check);
-        wrongInputs(check);
+        emptyBay(check);
+        stackThatTheBayHasNot(check);
+        noSuchWhat(check);
         check.end();
     }
 
@@ -91,10 +93,56 @@ public final class P12MomentTest {
         }
     }
 
-    private static void wrongInputs(Check check) {
+    private static void emptyBay(Check check) {
+        dueAll(check, "of a new object", new BayStowage(), 0, 0, 0, 0, 0, 1);
+        dueAll(check, "with no plan to be found", Voyages.unplannable(), 0, 0, 0, 0, 0, 1);
+        for (int stacks = 1; stacks <= 3; stacks++) {
+            BayStowage x = new BayStowage();
+            x.bay(stacks, 1, 2, 1, 0, 0);
+            dueAll(check, "of an empty bay of the least limits", x, 0, 0, 0, 0, 0, 1);
+        }
+        BayStowage y = Voyages.oneStack();
+        y.replay(8);
+        dueAll(check, "when all are off again", y, 0, 0, 0, 0, 0, 1);
+    }
+
+    /** "2 .. 4 the weight of stack 0 .. 2 (0 if the bay hasn't it)" */
+    private static void stackThatTheBayHasNot(Check check) {
+        for (int stacks = 1; stacks <= 3; stacks++) {
+            BayStowage x = new BayStowage();
+            x.bay(stacks, 1, 2, 200, 2000, 2000);
+            for (int box = 0; box < stacks; box++) {
+                x.box(0, 1, 10 + box, 0);
+            }
+            x.plan();
+            x.replay(stacks);
+            for (int stack = 0; stack < 3; stack++) {
+                check.due("moment(" + (2 + stack) + ") of " + stacks + " stacks",
+                        stack < stacks ? 10 + stack : 0, x.moment(2 + stack));
+            }
+        }
+        BayStowage wide = new BayStowage();
+        wide.bay(3, 1, 2, 200, 2000, 2000);
+        wide.box(0, 1, 10, 0);
+        wide.plan();
+        wide.replay(1);
+        check.due("moment(4) of three stacks", 10, wide.moment(4));
+        wide.bay(1, 1, 2, 200, 2000, 2000);
+        check.due("moment(4) of one stack from then on", 0, wide.moment(4));
+        wide.box(0, 1, 10, 0);
+        wide.plan();
+        wide.hand(0, 2);
+        wide.replay(1);
+        check.due("moment(4): nothing is put on a stack that there isn't", 0, wide.moment(4));
+    }
+
+    private static void noSuchWhat(Check check) {
         BayStowage x = Voyages.twoStacks();
-        for (int what : new int[] {-1, 6, Integer.MIN_VALUE, Integer.MAX_VALUE}) {
-            check.badArgument("moment(" + what + ")", () -> x.moment(what));
+        check.fits("moment(0)", () -> x.moment(0));
+        check.fits("moment(5)", () -> x.moment(5));
+        for (int what : new int[] {-1, 6, 7, Integer.MIN_VALUE, Integer.MAX_VALUE}) {
+            check.refusedArgument("moment(" + what + ")", Voyages::twoStacksAtPort0, y -> y.moment(what));
+            check.refusedArgument("moment(" + what + ") of a new object", BayStowage::new, y -> y.moment(what));
         }
     }
 }

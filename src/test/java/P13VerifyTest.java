@@ -1,3 +1,5 @@
+import java.util.function.Consumer;
+
 public final class P13VerifyTest {
     public static void main(String[] args) {
         Check check = new Check("promise 13");
@@ -5,6 +7,10 @@ public final class P13VerifyTest {
         badMoves(check);
         unsoundDepartures(check);
         badMoveBeforeDeparture(check);
+        firstAndLastMove(check);
+        eachDeparture(check);
+        planOfNothing(check);
+        onABayOfItsOwn(check);
         noPlan(check);
         check.end();
     }
@@ -81,14 +87,88 @@ public final class P13VerifyTest {
         check.due("verify(): the first move is bad", 1, x.verify());
     }
 
+    /** "the number from 1 on of the first bad move" */
+    private static void firstAndLastMove(Check check) {
+        BayStowage x = Voyages.oneStack();
+        x.hand(0, 1);
+        check.due("verify() with the first move bad", 1, x.verify());
+        BayStowage y = Voyages.twoStacks();
+        y.hand(0, 0);
+        check.due("verify() with the last move bad", 6, y.verify());
+        y.hand(0, 1);
+        check.due("verify() as it was", 0, y.verify());
+    }
+
+    /** "for a departure that isn't so, how many moves come ahead of it": at the first port, in between, the last */
+    private static void eachDeparture(Check check) {
+        for (int port = 0; port < 3; port++) {
+            BayStowage x = new BayStowage();
+            x.bay(2, 2, 4, 100, 2000, 2000);
+            x.plug(1, true);
+            for (int before = 0; before < port; before++) {
+                x.box(before, before + 1, 10, 0);
+            }
+            x.box(port, port + 1, 10, 1);
+            check.due("plan()", 0, x.plan());
+            check.due("verify()", 0, x.verify());
+            int last = 2 * port;
+            check.due("move(" + last + ", 0): the cold one", port, x.move(last, 0));
+            x.hand(last, 0);
+            check.due("verify() with the departure from " + port + " unsound", last + 1, x.verify());
+        }
+    }
+
+    private static void planOfNothing(Check check) {
+        check.due("verify() of a plan of nothing", 0, Voyages.plannedEmpty().verify());
+        for (int ports = 2; ports <= 4; ports++) {
+            BayStowage x = new BayStowage();
+            x.bay(1, 1, ports, 1, 0, 0);
+            x.plan();
+            check.due("verify() of nothing and " + ports + " ports", 0, x.verify());
+        }
+        BayStowage y = new BayStowage();
+        y.bay(1, 1, 4, 1, 1, 0);
+        y.box(2, 3, 1, 0);
+        y.plan();
+        check.due("verify(): departures ahead of all moves", 0, y.verify());
+    }
+
+    /** "(on a bay of its own)": what the crane has doesn't matter, nor is it changed. */
+    private static void onABayOfItsOwn(Check check) {
+        for (int n = 0; n <= 8; n++) {
+            BayStowage x = Voyages.oneStack();
+            x.replay(n);
+            String before = Probe.seen(x);
+            check.due("verify() after replay(" + n + ")", 0, x.verify());
+            check.isTrue("verify() after replay(" + n + ") changes nothing", before.equals(Probe.seen(x)));
+        }
+        BayStowage y = Voyages.twoStacksByHand();
+        check.due("verify() by hand", 3, y.verify());
+        check.due("slot(0, 0): the crane keeps what it has", 1, y.slot(0, 0));
+        check.due("slot(1, 0): the crane keeps what it has", 0, y.slot(1, 0));
+    }
+
     private static void noPlan(Check check) {
-        BayStowage x = new BayStowage();
-        check.badState("verify() of a new object", x::verify);
-        x.box(0, 1, 1, 1);
-        x.plan();
-        check.badState("verify() when there is no plan", x::verify);
-        x.roll(0);
-        x.plan();
-        check.due("verify() of no moves", 0, x.verify());
+        check.refusedState("verify() of a new object", BayStowage::new, BayStowage::verify);
+        check.refusedState("verify() of boxes alone", Voyages::booked, BayStowage::verify);
+        check.refusedState("verify() with no plan to be found", Voyages::unplannable, BayStowage::verify);
+        check.badState("verify() after bay", () -> after(x -> x.bay(2, 2, 3, 100, 1000, 1000)).verify());
+        check.badState("verify() after plug", () -> after(x -> x.plug(0, false)).verify());
+        check.badState("verify() after box", () -> after(x -> x.box(0, 1, 1, 0)).verify());
+        check.badState("verify() after roll", () -> after(x -> x.roll(0)).verify());
+        check.fits("verify() after replay", () -> after(x -> x.replay(0)).verify());
+        check.fits("verify() after hand", () -> after(x -> x.hand(0, 0)).verify());
+        check.fits("verify() after verify", () -> after(BayStowage::verify).verify());
+        BayStowage y = Voyages.unplannable();
+        y.roll(0);
+        check.badState("verify() after roll", y::verify);
+        y.plan();
+        check.due("verify() of no moves", 0, y.verify());
+    }
+
+    private static BayStowage after(Consumer<BayStowage> call) {
+        BayStowage x = Voyages.twoStacks();
+        call.accept(x);
+        return x;
     }
 }
