@@ -68,12 +68,7 @@ public final class P05RollTest {
     }
 
     private static BayStowage bookedOf(int boxes) {
-        BayStowage x = new BayStowage();
-        x.bay(3, 2, 2, 200, 2000, 2000);
-        for (int box = 0; box < boxes; box++) {
-            x.box(0, 1, 1, 0);
-        }
-        x.plan();
+        BayStowage x = Voyages.alike(3, 2, boxes);
         x.replay(1);
         return x;
     }

@@ -44,13 +44,7 @@ public final class P07MovesTest {
 
     private static void twoForABox(Check check) {
         for (int boxes = 1; boxes <= 5; boxes++) {
-            BayStowage x = new BayStowage();
-            x.bay(3, 2, 2, 200, 2000, 2000);
-            for (int box = 0; box < boxes; box++) {
-                x.box(0, 1, 1, 0);
-            }
-            x.plan();
-            check.due("moves() of " + boxes + " boxes", 2 * boxes, x.moves());
+            check.due("moves() of " + boxes + " boxes", 2 * boxes, Voyages.alike(3, 2, boxes).moves());
         }
     }
 
@@ -59,15 +53,8 @@ public final class P07MovesTest {
         check.due("moves() of three boxes without one", 6, Voyages.twoStacks().moves());
     }
 
-    /** Five boxes, four of which stay at two ports and are all shifted there: weights that balance in few ways. */
     private static void theMost(Check check) {
-        BayStowage x = new BayStowage();
-        x.bay(3, 2, 4, 64, 2000, 0);
-        for (int tonnes : new int[] {18, 18, 16, 13}) {
-            x.box(0, 3, tonnes, 0);
-        }
-        x.box(1, 2, 3, 0);
-        check.due("plan() of the most shifts", 8, x.plan());
+        BayStowage x = Voyages.mostShifts();
         check.due("moves() of the most shifts", 2 * 5 + 2 * 8, x.moves());
         check.due("move(25, 1): the last", 3, x.move(25, 1));
         check.badIndex("move(26, 1)", () -> x.move(26, 1));

@@ -71,18 +71,12 @@ public final class P09HandTest {
         for (int stacks = 1; stacks <= 3; stacks++) {
             for (int stack = 0; stack <= 2; stack++) {
                 int told = stack;
-                BayStowage x = new BayStowage();
-                x.bay(stacks, 1, 2, 200, 2000, 2000);
-                x.box(0, 1, 1, 0);
-                x.plan();
+                BayStowage x = Voyages.alike(stacks, 1, 1);
                 check.fits("hand(0, " + stack + ") of " + stacks, () -> x.hand(0, told));
                 check.due("move(0, 3) of " + stacks, stack, x.move(0, 3));
             }
             for (int stack : new int[] {-1, 3}) {
-                BayStowage x = new BayStowage();
-                x.bay(stacks, 1, 2, 200, 2000, 2000);
-                x.box(0, 1, 1, 0);
-                x.plan();
+                BayStowage x = Voyages.alike(stacks, 1, 1);
                 check.badArgument("hand(0, " + stack + ") of " + stacks, () -> x.hand(0, stack));
             }
         }

@@ -27,8 +27,7 @@ public final class P11SlotTest {
     private static void emptyBay(Check check) {
         for (int stacks = 1; stacks <= 3; stacks++) {
             for (int tiers = 1; tiers <= 3; tiers++) {
-                BayStowage x = new BayStowage();
-                x.bay(stacks, tiers, 2, 200, 2000, 2000);
+                BayStowage x = Voyages.alike(stacks, tiers, 1);
                 for (int slot = 0; slot < stacks * tiers; slot++) {
                     check.due("slot of an empty bay", BayStowage.NONE, x.slot(slot / tiers, slot % tiers));
                 }
@@ -37,11 +36,7 @@ public final class P11SlotTest {
     }
 
     private static void fullBay(Check check) {
-        BayStowage x = new BayStowage();
-        for (int box = 0; box < 4; box++) {
-            x.box(0, 2, 1, 0);
-        }
-        x.plan();
+        BayStowage x = Voyages.alike(2, 2, 4);
         x.replay(4);
         check.due("slot(0, 0) of a full bay", 0, x.slot(0, 0));
         check.due("slot(0, 1) of a full bay", 1, x.slot(0, 1));
@@ -73,10 +68,7 @@ public final class P11SlotTest {
     }
 
     private static BayStowage oneBox(int stacks, int tiers) {
-        BayStowage x = new BayStowage();
-        x.bay(stacks, tiers, 2, 200, 2000, 2000);
-        x.box(0, 1, 1, 0);
-        x.plan();
+        BayStowage x = Voyages.alike(stacks, tiers, 1);
         x.replay(1);
         return x;
     }

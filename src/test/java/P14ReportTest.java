@@ -14,22 +14,10 @@ public final class P14ReportTest {
     private static void answers(Check check) {
         dueAll(check, "one stack", Voyages.oneStack(), new int[][] {{2, 0, 0}, {1, 0, 0}, {0, 1, 1}, {0, 2, 0}});
         dueAll(check, "two stacks", Voyages.twoStacks(), new int[][] {{2, 0, 0}, {1, 1, 0}, {0, 2, 0}});
-        BayStowage x = new BayStowage();
-        x.bay(3, 2, 4, 64, 2000, 0);
-        for (int tonnes : new int[] {18, 18, 16, 13}) {
-            x.box(0, 3, tonnes, 0);
-        }
-        x.box(1, 2, 3, 0);
-        x.plan();
-        dueAll(check, "the most shifts", x, new int[][] {{4, 0, 0}, {1, 0, 4}, {0, 1, 4}, {0, 4, 0}});
+        dueAll(check, "the most shifts", Voyages.mostShifts(),
+                new int[][] {{4, 0, 0}, {1, 0, 4}, {0, 1, 4}, {0, 4, 0}});
         for (int boxes = 0; boxes <= 5; boxes++) {
-            BayStowage y = new BayStowage();
-            y.bay(3, 2, 2, 200, 2000, 2000);
-            for (int box = 0; box < boxes; box++) {
-                y.box(0, 1, 1, 0);
-            }
-            y.plan();
-            dueAll(check, boxes + " boxes", y, new int[][] {{boxes, 0, 0}, {0, boxes, 0}});
+            dueAll(check, boxes + " boxes", Voyages.alike(3, 2, boxes), new int[][] {{boxes, 0, 0}, {0, boxes, 0}});
         }
     }
 

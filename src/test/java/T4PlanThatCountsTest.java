@@ -62,18 +62,11 @@ public final class T4PlanThatCountsTest {
 
     /** Four stay aboard from port 1 to 2, and four from there on: all of them move both times. */
     private static void mostShifts(Check check) {
-        BayStowage x = new BayStowage();
-        x.bay(3, 2, 4, 64, 2000, 0);
-        x.box(0, 3, 18, 0);
-        x.box(0, 3, 18, 0);
-        x.box(0, 3, 16, 0);
-        x.box(0, 3, 13, 0);
-        x.box(1, 2, 3, 0);
+        BayStowage x = Voyages.mostShifts();
         check.due("plan() of the most shifts", 8, x.plan());
-        check.due("moves() of the most shifts", 2 * 5 + 2 * 8, x.moves());
+        check.due("report(1, 2) of the most shifts", 4, x.report(1, 2));
+        check.due("report(2, 2) of the most shifts", 4, x.report(2, 2));
         check.due("verify() of the most shifts", 0, x.verify());
-        check.due("replay() of the most shifts", 26, x.replay(26));
-        check.badIndex("move(26, 0)", () -> x.move(26, 0));
     }
 
     /** "The plan that counts has the fewest shifts in all": even if another's first arrangement is first */

@@ -26,11 +26,7 @@ public final class T5CraneTest {
 
     /** "its box isn't on top of the stack it is to be taken from": it is there, with another one upon it */
     private static void beneathAnother(Check check) {
-        BayStowage x = new BayStowage();
-        x.box(0, 1, 1, 0);
-        x.box(0, 1, 1, 0);
-        x.box(0, 1, 1, 0);
-        x.plan();
+        BayStowage x = Voyages.alike(2, 2, 3);
         check.dueMoves("of three boxes", x, "0@0 .>0, 1@0 .>1, 2@0 .>1, 0@1 0>., 2@1 1>., 1@1 1>.");
         check.due("replay(6): each on top of its stack", 6, x.replay(6));
         x.hand(1, 0);
@@ -42,9 +38,7 @@ public final class T5CraneTest {
 
     /** The same: it is in another stack, and the one it is to be taken from is empty or has another on top. */
     private static void inAnotherStack(Check check) {
-        BayStowage x = new BayStowage();
-        x.box(0, 1, 10, 0);
-        x.plan();
+        BayStowage x = Voyages.alike(2, 2, 1);
         x.hand(0, 0);
         check.due("replay(2): stack 1 is empty", 1, x.replay(2));
         check.due("verify()", 2, x.verify());
@@ -61,12 +55,7 @@ public final class T5CraneTest {
     /** "the stack it is to be put on has no tier left" */
     private static void noTierLeft(Check check) {
         for (int tiers = 1; tiers <= 3; tiers++) {
-            BayStowage x = new BayStowage();
-            x.bay(2, tiers, 2, 200, 2000, 2000);
-            for (int box = 0; box <= tiers; box++) {
-                x.box(0, 1, 1, 0);
-            }
-            x.plan();
+            BayStowage x = Voyages.alike(2, tiers, tiers + 1);
             for (int i = 0; i <= tiers; i++) {
                 x.hand(i, 0);
             }
@@ -93,10 +82,7 @@ public final class T5CraneTest {
     private static void noSuchStack(Check check) {
         for (int stacks = 1; stacks <= 3; stacks++) {
             for (int stack = 0; stack <= 2; stack++) {
-                BayStowage x = new BayStowage();
-                x.bay(stacks, 1, 2, 200, 2000, 2000);
-                x.box(0, 1, 1, 0);
-                x.plan();
+                BayStowage x = Voyages.alike(stacks, 1, 1);
                 x.hand(0, stack);
                 check.due("replay(1) to stack " + stack + " of " + stacks, stack < stacks ? 1 : 0, x.replay(1));
                 check.due("moment of stack " + stack, stack < stacks ? 1 : 0, x.moment(2 + stack));

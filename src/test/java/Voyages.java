@@ -117,6 +117,32 @@ final class Voyages {
         return x;
     }
 
+    /** Boxes of a tonne, all of them from port 0 to port 1, in a bay that limits nothing; planned. */
+    static BayStowage alike(int stacks, int tiers, int boxes) {
+        BayStowage x = new BayStowage();
+        x.bay(stacks, tiers, 2, 200, 2000, 2000);
+        for (int box = 0; box < boxes; box++) {
+            x.box(0, 1, 1, 0);
+        }
+        x.plan();
+        return x;
+    }
+
+    /**
+     * Five boxes, four of which stay aboard at ports 1 and 2 and are all shifted there, as their weights
+     * balance in few ways: 8 shifts, and more than four at two ports there can't be.
+     */
+    static BayStowage mostShifts() {
+        BayStowage x = new BayStowage();
+        x.bay(3, 2, 4, 64, 2000, 0);
+        for (int tonnes : new int[] {18, 18, 16, 13}) {
+            x.box(0, 3, tonnes, 0);
+        }
+        x.box(1, 2, 3, 0);
+        x.plan();
+        return x;
+    }
+
     /** Objects in all the states that the document tells apart. */
     static Map<String, Supplier<BayStowage>> scenes() {
         Map<String, Supplier<BayStowage>> scenes = new LinkedHashMap<>();
@@ -128,6 +154,7 @@ final class Voyages {
         scenes.put("two stacks at port 0", Voyages::twoStacksAtPort0);
         scenes.put("two stacks by hand", Voyages::twoStacksByHand);
         scenes.put("five booked", Voyages::fullBook);
+        scenes.put("the most shifts", Voyages::mostShifts);
         scenes.put("a plug", Voyages::plugged);
         scenes.put("tight tonnes", () -> sideBySide(20, 2000, 2000));
         scenes.put("tight vertical moment", () -> sideBySide(200, 40, 2000));
