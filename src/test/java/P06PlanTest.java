@@ -11,6 +11,8 @@ public final class P06PlanTest {
         emptyCrane(check);
         againAndAgain(check);
         mostArrangements(check);
+        mostArrangementsOfEachJourney(check);
+        fiveAtSeveralDepartures(check);
         check.end();
     }
 
@@ -183,5 +185,50 @@ public final class P06PlanTest {
         }
         check.dueMoves("of the most arrangements", x,
                 "0@0 .>1, 1@0 .>2, 2@0 .>2, 3@0 .>2, 4@1 .>1, 4@2 1>., 0@3 1>., 3@3 2>., 2@3 2>., 1@3 2>.");
+    }
+
+    /** The same for each choice of the box that leaves at port 2 and the one that comes at port 1. */
+    private static void mostArrangementsOfEachJourney(Check check) {
+        for (int leaves = 0; leaves < 5; leaves++) {
+            for (int comes = 0; comes < 5; comes++) {
+                BayStowage x = fullest(leaves, comes);
+                check.due("plan() with " + leaves + " leaving and " + comes + " coming", 0, x.plan());
+                check.due("verify() with " + leaves + " leaving and " + comes + " coming", 0, x.verify());
+                check.due("moves() with " + leaves + " leaving and " + comes + " coming", 10, x.moves());
+            }
+        }
+        BayStowage y = fullest(0, 4);
+        y.plan();
+        // Upon 0 in stack 1 box 4 would be ahead at port 1, but it were shifted at port 2.
+        check.dueMoves("that want one far down the list at port 2", y,
+                "0@0 .>1, 1@0 .>2, 2@0 .>2, 3@0 .>2, 4@1 .>0, 0@2 1>., 4@3 0>., 3@3 2>., 2@3 2>., 1@3 2>.");
+    }
+
+    /** Four boxes that are always aboard and one of each journey: all five may be at up to three departures. */
+    private static void fiveAtSeveralDepartures(Check check) {
+        for (int one = 0; one < 5; one++) {
+            for (int from = 0; from < 3; from++) {
+                for (int to = from + 1; to <= 3; to++) {
+                    BayStowage x = new BayStowage();
+                    x.bay(3, 3, 4, 200, 2000, 2000);
+                    for (int box = 0; box < 5; box++) {
+                        x.box(box == one ? from : 0, box == one ? to : 3, 1, 0);
+                    }
+                    String voyage = " with box " + one + " from " + from + " to " + to;
+                    check.due("plan()" + voyage, 0, x.plan());
+                    check.due("verify()" + voyage, 0, x.verify());
+                    check.due("moves()" + voyage, 10, x.moves());
+                }
+            }
+        }
+    }
+
+    private static BayStowage fullest(int leaves, int comes) {
+        BayStowage x = new BayStowage();
+        x.bay(3, 3, 4, 200, 2000, 2000);
+        for (int box = 0; box < 5; box++) {
+            x.box(box == comes ? 1 : 0, box == leaves ? 2 : 3, 1, 0);
+        }
+        return x;
     }
 }
