@@ -76,12 +76,11 @@ public final class BayStowage {
 
     public int plan() {
         dropPlan();
-        if (!planner.listAll()) {
-            return NONE;
+        int shifts = planner.listAll() ? planner.chooseAll() : NONE;
+        if (shifts != NONE) {
+            planner.writeInto(script);
+            planned = true;
         }
-        int shifts = planner.chooseAll();
-        planner.writeInto(script);
-        planned = true;
         return shifts;
     }
 
@@ -608,7 +607,7 @@ public final class BayStowage {
         }
 
         private boolean goesOn(int port, int a, int left) {
-            if (port + 1 == ship.departures() || chooses(port + 1, codes[a], left)) {
+            if (port + 1 >= ship.departures() || chooses(port + 1, codes[a], left)) {
                 return true;
             }
             leastBehind[a] = left + 1;
